@@ -595,7 +595,8 @@ public final class SymmetryTax {
         }
         handOver(paper);
         filling.findHoles(books.things[thing]);
-        filling.seek(clerk, paper, parts, sum);
+        filling.prepare(clerk, paper, parts, sum);
+        filling.fillFrom(0);
         filling.keepFor(thing, changes);
         return true;
     }
@@ -1189,11 +1190,17 @@ public final class SymmetryTax {
         }
 
         private boolean expect(int sign) {
-            return accept(SIGN, sign) || fail();
+            if (kinds[at] != SIGN || values[at] != sign) {
+                faultPlace = places[at];
+                return false;
+            }
+            at++;
+            return true;
         }
 
         private int emit(int step, int value) {
-            int here = Math.min(size, TAPE);
+            // a token makes one step at most, so a whole tape of them finds room
+            int here = size < TAPE ? size : TAPE;
             steps[here] = step;
             with[here] = value;
             size = here + 1;
@@ -1514,17 +1521,16 @@ public final class SymmetryTax {
             }
         }
 
-        /** The clerk must have been handed the paper, and the holes have been found. */
-        void seek(Clerk asked, Paper its, int ofParts, int ofSum) {
+        /** The clerk must have been handed the paper. */
+        void prepare(Clerk asked, Paper its, int ofParts, int ofSum) {
             clerk = asked;
             paper = its;
             parts = ofParts;
             sum = ofSum;
             ways = 0;
-            fillFrom(0);
         }
 
-        private void fillFrom(int hole) {
+        void fillFrom(int hole) {
             if (clerk == null || paper == null) {
                 return;
             }
@@ -1588,7 +1594,6 @@ public final class SymmetryTax {
             }
             size = 0;
             pairs = 0;
-            Arrays.fill(tried, 0);
             for (int t = 0; t < THINGS; t++) {
                 waits[t] = false;
             }

@@ -1088,7 +1088,7 @@ public final class ModelTest {
 
     public static void main(String[] args) {
         long from = args.length > 0 ? Long.parseLong(args[0]) : 1;
-        long count = args.length > 1 ? Long.parseLong(args[1]) : 400;
+        long count = args.length > 1 ? Long.parseLong(args[1]) : 250;
         for (long seed = from; seed < from + count; seed++) {
             ModelTest run = new ModelTest(seed);
             run.run();

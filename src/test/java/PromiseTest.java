@@ -267,6 +267,7 @@ public final class PromiseTest {
         good("spares if ((((((((1=1))))))))");
         good("spares if (((([[[[1]]]]=1))))");
         good("spares if " + "not ".repeat(90) + "1=1");
+        good("tax 1" + " ".repeat(395));
         SymmetryTax x = new SymmetryTax();
         for (int l = 0; l < 6; l++) {
             due("law", law(x, "tax " + l), l);
@@ -313,7 +314,12 @@ public final class PromiseTest {
         bad("tax 5\tif 3=3", 5);
         bad("tax 5 if 3=3 xor 4=4", 13);
         bad("spares 3", 7);
-        bad("tax and", 4);
+        for (String word : "tax spares if or and not likes lik x".split(" ")) {
+            bad("tax " + word, 4);
+        }
+        bad("+".repeat(400), 0);
+        bad("tax 1" + " ".repeat(394) + "+", 400);
+        bad("tax 1" + ";".repeat(395), 6);
         bad("tax 5 if or", 9);
         bad(chain("spares", ";spares", 13), 84);
         bad(chain("spares", ";spares", 12) + "; ", 85);
@@ -436,7 +442,25 @@ public final class PromiseTest {
         taxed("tax 3 if not(1=1 and 1/0=1)", 10);
         taxed("tax 3 if 1=2 and 1/0=1 or 2=2", 3);
         taxed("spares if 1/0=0", 10);
-        SymmetryTax x = rows(2, 1, 1, 2);
+        SymmetryTax x = new SymmetryTax();
+        x.thing(8, 8, 0);
+        for (int c = 0; c < 64; c++) {
+            // each quarter has its own part
+            x.paint(0, c % 8, c / 8, c / 32 * 2 + c % 8 / 4);
+        }
+        law(x, "tax off");
+        law(x, "tax parts*10+like");
+        x.force(0);
+        due("all are off", x.tax(0, 0), 64);
+        due("all are off", x.tax(0, 5), 64);
+        x.force(1);
+        for (int c = 0; c < 10; c++) {
+            x.paint(0, c % 8, c / 8, c);
+        }
+        for (int like = 0; like < 6; like++) {
+            due("all parts", x.tax(0, like), 100 + like);
+        }
+        x = rows(2, 1, 1, 2);
         due("whether it has it or not", x.tax(0, 0), 10);
         due("not square", x.tax(0, 3), NONE);
         due("likeness 6", x.tax(0, 6), NONE);
@@ -562,11 +586,15 @@ public final class PromiseTest {
         x.paint(0, 2, 0, 3);
         due("three", x.free(0, 9, 0), 3);
         due("three", x.free(0, 9, 3), 2);
+        add(x, 3, 1, 0, 9, 9, 9);
+        due("another thing", x.free(1, 9, 0), 0);
+        due("the thing again", x.free(0, 9, 0), 3);
+        due("another part", x.free(0, 8, 1), 0);
         due("part 10", x.free(0, 10, 0), NONE);
         due("part -1", x.free(0, -1, 4), NONE);
         due("what 5", x.free(0, 1, 5), NONE);
         due("what -1", x.free(0, 1, -1), NONE);
-        due("no thing", x.free(1, 1, 4), NONE);
+        due("no thing", x.free(2, 1, 4), NONE);
     }
 
     private static void shapes() {
@@ -636,11 +664,14 @@ public final class PromiseTest {
         due("both", x.fills(0, 2, 10), 2);
         due("a sum of 0", x.fills(0, 2, 0), 0);
         due("a sum of 9999", x.fills(0, 2, 9999), 0);
+        x.thing(1, 1, 0);
+        due("another thing", x.fills(1, 2, 10), 0);
+        due("the thing again", x.fills(0, 2, 10), 2);
         due("1 part", x.fills(0, 1, 10), NONE);
         due("5 parts", x.fills(0, 5, 10), NONE);
         due("sum -1", x.fills(0, 2, -1), NONE);
         due("sum 10000", x.fills(0, 2, 10000), NONE);
-        due("no thing", x.fills(1, 2, 10), NONE);
+        due("no thing", x.fills(2, 2, 10), NONE);
         due("it is not filled", x.of(0, 1, 0), 3);
         law(x, "tax 0;tax parts if like=1");
         x.force(0);
@@ -648,11 +679,11 @@ public final class PromiseTest {
         due("by a law", x.fills(0, 3, 2), 6);
         x.thing(8, 8, 0);
         for (int c = 0; c < 6; c++) {
-            x.hole(1, c, 0, 1);
+            x.hole(2, c, 0, 1);
         }
         x.force(NONE);
         x.terms(0, 64);
-        due("all", x.fills(1, 4, 60), 4096);
+        due("all", x.fills(2, 4, 60), 4096);
 
         promise = 29;
         x = rows(3, 1, 0, 5, 2);
@@ -869,6 +900,21 @@ public final class PromiseTest {
         due("a thing anew", x.thing(1, 1, 1), 1);
         due("a thing anew has no part of an old one", x.fact(1, 3), 1);
         due("refused stay counted", x.count(4), 4);
+        x = new SymmetryTax();
+        x.image(0);
+        add(x, 2, 1, 3, 1, 2);
+        x.image(1);
+        x.back(0);
+        due("no thing", x.fact(0, 0), NONE);
+        add(x, 5, 4, 1, 3, 4, 5, 6, 7, 8, 9);
+        due("off", x.off(0, 0), 8);
+        x.back(1);
+        due("wide", x.fact(0, 0), 2);
+        due("tall", x.fact(0, 1), 1);
+        due("owner", x.fact(0, 2), 3);
+        due("parts", x.fact(0, 3), 2);
+        due("off", x.off(0, 0), 2);
+        due("owner", x.owner(3), 10);
 
         promise = 39;
         x = new SymmetryTax();

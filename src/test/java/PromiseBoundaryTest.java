@@ -662,6 +662,15 @@ public final class PromiseBoundaryTest {
             x.law();
             due("count(9)", x.count(9), 1);
         });
+        test("promise 12: many long TEXTS leave nothing behind for the next", () -> {
+            SymmetryTax x = Bounds.of(1, 1);
+            for (int n = 0; n < 40; n++) {
+                due("too long", Bounds.law(x, "tax 1" + "+1".repeat(50)), -6);
+            }
+            due("a TEXT", Bounds.law(x, "tax 3;tax 4 if 1=2"), 0);
+            x.force(0);
+            due("tax", x.tax(0, 0), 3);
+        });
         test("promise 12: a TEXT that was REFUSED leaves nothing behind for the next", () -> {
             SymmetryTax x = Bounds.of(1, 1);
             due("half a TEXT", Bounds.law(x, "tax 5;spares;tax 1+2 if 1=1 or [3"), -6);
@@ -1175,6 +1184,19 @@ public final class PromiseBoundaryTest {
             Bounds.Act setup = unlessOnePart(4, 6, 7, 9, 8);
             Bounds.unchanged("free(0, 9, 0)", setup, x -> x.free(0, 9, 0), 3);
         });
+        test("promise 24: of another THING, of another PART in turn", () -> {
+            SymmetryTax x = Bounds.made(unlessOnePart(4, 6, 7, 9, 8));
+            Bounds.add(x, 4, 1, 0, 6, 6, 6, 9);
+            for (int n = 0; n < 2; n++) {
+                due("9", x.free(0, 9, 3), 3);
+                due("8", x.free(0, 8, 3), 2);
+                due("5", x.free(0, 5, 0), NONE);
+                due("another THING", x.free(1, 5, 0), NONE);
+                due("another THING", x.free(1, 6, 1), 3);
+                due("the THING again", x.free(0, 6, 1), 1);
+                due("no THING", x.free(2, 6, 1), NONE);
+            }
+        });
         test("promise 24: it is asked anew when something changed", () -> {
             SymmetryTax x = Bounds.made(unlessOnePart(4, 6, 7, 9, 8));
             due("3", x.free(0, 9, 0), 3);
@@ -1386,6 +1408,29 @@ public final class PromiseBoundaryTest {
             Bounds.unchanged("no THINGS", EMPTY, x -> x.fills(0, 2, 0), NONE);
         });
         test("promise 28: it is on paper", () -> Bounds.unchanged("fills", HOLED, x -> x.fills(0, 4, 30), 4));
+        test("promise 28: of another THING, other PARTS, another sum in turn", () -> {
+            SymmetryTax x = Bounds.made(HOLED);
+            Bounds.add(x, 2, 1, 0, 1, 2);
+            x.hole(1, 0, 0, 1);
+            for (int n = 0; n < 2; n++) {
+                due("3, 10", x.fills(0, 3, 10), 6);
+                due("3, 30", x.fills(0, 3, 30), 3);
+                due("4, 30", x.fills(0, 4, 30), 4);
+                due("another THING", x.fills(1, 4, 30), 1);
+                due("another THING", x.sure(1, 4, 30, 0, 0), 2);
+                due("the THING again", x.sure(0, 4, 30, 0, 0), 2);
+                due("no THING", x.fills(2, 4, 30), NONE);
+            }
+        });
+        test("promise 28: a HOLE in the last CELL of 8 by 8, and none", () -> {
+            SymmetryTax x = Bounds.of(8, 8);
+            due("none", x.fills(0, 4, 60), 1);
+            x.hole(0, 7, 7, 1);
+            due("one", x.fills(0, 4, 60), 1);
+            // the last CELL lies on the line of LIKENESS 3, and is OFF all others
+            due("one", x.fills(0, 4, 10), 3);
+            due("sure", x.sure(0, 4, 60, 7, 7), 0);
+        });
         test("promise 28: it is asked anew when something changed", () -> {
             SymmetryTax x = Bounds.made(HOLED);
             due("two HOLES", x.fills(0, 3, 10), 6);
@@ -1903,6 +1948,43 @@ public final class PromiseBoundaryTest {
             Bounds.due("the same", Bounds.made(changed.then(x -> x.back(1))).count(0), 3);
             Bounds.alike("back(1)", kept, changed.then(x -> x.back(1)), "count(8)", "flakes()");
         });
+        test("promise 38: WIDE, TALL and OWNER of a number come back", () -> {
+            SymmetryTax x = new SymmetryTax();
+            x.image(0);
+            Bounds.add(x, 2, 1, 3, 1, 2);
+            x.image(1);
+            x.back(0);
+            Bounds.add(x, 5, 4, 1, 3, 4, 5, 6, 7, 8, 9);
+            due("off", x.off(0, 0), 8);
+            x.back(1);
+            due("WIDE", x.fact(0, 0), 2);
+            due("TALL", x.fact(0, 1), 1);
+            due("OWNER", x.fact(0, 2), 3);
+            due("off", x.off(0, 0), 2);
+            due("owner(3)", x.owner(3), 10);
+        });
+        test("promise 38: a THING of other sides by the same number has nothing of the one that was", () -> {
+            int[][] sides = {{3, 3}, {3, 2}, {2, 3}, {2, 2}, {8, 8}, {1, 1}};
+            for (int[] was : sides) {
+                for (int[] is : sides) {
+                    Bounds.Act fresh = x -> {
+                        x.image(0);
+                        Bounds.add(x, is[0], is[1], 2, 1, 2, 2, 1, 3);
+                    };
+                    Bounds.Act again = x -> {
+                        x.image(0);
+                        Bounds.add(x, was[0], was[1], 4, 5, 5, 6, 7, 8, 9);
+                        x.owes(NONE);
+                        x.off(0, 0);
+                        x.place(0, 1);
+                        x.best(0);
+                        x.back(0);
+                        Bounds.add(x, is[0], is[1], 2, 1, 2, 2, 1, 3);
+                    };
+                    Bounds.alike(is[0] + " by " + is[1], fresh, again);
+                }
+            }
+        });
         test("promise 38: it keeps not the TAPE", () -> {
             SymmetryTax x = rich();
             x.image(1);
@@ -2100,22 +2182,33 @@ public final class PromiseBoundaryTest {
         toldByStatus("back, no number", RICH, x -> x.back(2), -1, x -> x.back(0));
         test("promise 40: the calls that are not named leave it as it was", () -> {
             for (Bounds.Ask ask : questions()) {
-                SymmetryTax x = rich();
-                x.place(0, 6);
-                ask.of(x);
-                due("status() behind -3", x.status(), -3);
-                x = rich();
-                ask.of(x);
-                due("status() behind 0", x.status(), 0);
+                leavesStatus(ask);
+            }
+            leavesStatus(x -> x.feed(0, 0, 0, 0, 0));
+            leavesStatus(x -> x.end(0));
+        });
+        test("promise 40: questions leave all as it was", () -> {
+            Bounds.Ask[] all = questions();
+            for (int n = 0; n < all.length; n++) {
+                Bounds.unchanged("question " + n, RICH, all[n], all[n].of(rich()));
             }
         });
     }
 
-    /** All calls that status does not name, each with an answer and with NONE. */
+    private static void leavesStatus(Bounds.Ask ask) {
+        SymmetryTax x = rich();
+        x.place(0, 6);
+        ask.of(x);
+        due("status() behind -3", x.status(), -3);
+        x = rich();
+        ask.of(x);
+        due("status() behind 0", x.status(), 0);
+    }
+
+    /** All calls that status does not name, each with an answer and with NONE; but those that change the tape. */
     private static Bounds.Ask[] questions() {
         return new Bounds.Ask[] {
-            x -> x.fact(0, 0), x -> x.fact(9, 9), x -> x.of(0, 0, 0), x -> x.of(9, 9, 9), x -> x.feed(0, 0, 0, 0, 0),
-            x -> x.end(0), x -> x.end(401), x -> x.flakes(), x -> x.fault(), x -> x.off(0, 0), x -> x.off(9, 9),
+            x -> x.fact(0, 0), x -> x.fact(9, 9), x -> x.of(0, 0, 0), x -> x.of(9, 9, 9), x -> x.end(401), x -> x.flakes(), x -> x.fault(), x -> x.off(0, 0), x -> x.off(9, 9),
             x -> x.has(0), x -> x.has(9), x -> x.tax(0, 0), x -> x.tax(9, 9), x -> x.owes(0), x -> x.owes(NONE),
             x -> x.owes(9), x -> x.owner(0), x -> x.owner(9), x -> x.brings(0), x -> x.brings(9), x -> x.dearest(),
             x -> x.quite(0, 0), x -> x.quite(9, 9), x -> x.quiteAt(0, 0, 0, 0), x -> x.quiteAt(9, 9, 9, 9),

@@ -1,3 +1,6 @@
+import java.util.Arrays;
+import java.util.TreeMap;
+
 /**
  * For each sentence of the Terms that names a boundary case a test of its own, named after the term. What a single call
  * takes or refuses is in PromiseBoundaryTest; here is what the words in capitals mean at their edges.
@@ -350,6 +353,19 @@ public final class TermBoundaryTest {
                 bad("tax " + word, 4);
             }
         });
+        test("term II, words: each letter of each of them matters", () -> {
+            String all = "tax like+off+wide+tall+area+owner+day+parts if not 1=1 or 1=1 and 1=1;spares";
+            good(all);
+            for (int at = 0; at < all.length(); at++) {
+                if (Character.isLetter(all.charAt(at))) {
+                    int start = at;
+                    while (start > 0 && Character.isLetter(all.charAt(start - 1))) {
+                        start--;
+                    }
+                    bad(all.substring(0, at) + "z" + all.substring(at + 1), start);
+                }
+            }
+        });
         test("term II, NUMBER: 0 and 1000 are taken, 1001 is the FAULT", () -> {
             taxed("tax 0", 0);
             taxed("tax 1000/2", 500);
@@ -457,6 +473,21 @@ public final class TermBoundaryTest {
                 x.paint(0, c % 8, c / 8, c % 8 / 4);
             }
             due("all", x.tax(0, 0), 64);
+        });
+        test("term II, off: 64 by one LIKENESS, 0 by the next", () -> {
+            int[] parts = new int[64];
+            for (int c = 0; c < 64; c++) {
+                parts[c] = c % 8 / 4;
+            }
+            SymmetryTax x = Bounds.of(8, 8, parts);
+            Bounds.law(x, "tax off");
+            x.force(0);
+            x.terms(0, 64);
+            int[] off = {64, 0, 64, 32, 32, 32};
+            for (int like = 0; like < 6; like++) {
+                due("tax(0, " + like + ")", x.tax(0, like), off[like]);
+            }
+            due("owes(0)", x.owes(0), 224);
         });
         test("term II, wide, tall, area: 1 to 8, 1 to 64", () -> {
             for (int size = 0; size < 64; size++) {
@@ -609,6 +640,28 @@ public final class TermBoundaryTest {
             taxed("tax 3 if not not 1=1", 3);
             taxed("tax 3 if not not not 1=1", 10);
         });
+        test("term II, not: of what is so and of what is not, in brackets, and with each sign", () -> {
+            taxed("tax 3 if not (not 1=1)", 3);
+            taxed("tax 3 if not (not 1=2)", 10);
+            taxed("tax 3 if not (not (not 1=1))", 10);
+            for (String so : new String[] {"1=1", "1<2", "2>1", "not 1=2", "not 2<1", "not 1>2"}) {
+                taxed("tax 3 if " + so, 3);
+                taxed("tax 3 if not(" + so + ")", 10);
+                taxed("tax 3 if not not(" + so + ")", 3);
+                taxed("tax 3 if " + so + " and 1=1", 3);
+                taxed("tax 3 if " + so + " and 1=2", 10);
+                taxed("tax 3 if not(" + so + ") or 1=2", 10);
+                taxed("tax 3 if not(" + so + ") or 1=1", 3);
+            }
+            for (String not : new String[] {"1=2", "2<1", "1<1", "1>2", "1>1", "not 1=1", "not 1<2", "not 2>1"}) {
+                taxed("tax 3 if " + not, 10);
+                taxed("tax 3 if not(" + not + ")", 3);
+                taxed("tax 3 if " + not + " and 1=1", 10);
+                taxed("tax 3 if " + not + " or 1=1", 3);
+                taxed("tax 3 if " + not + " or 1=2", 10);
+                taxed("tax 3 if not(" + not + ") and 1=1", 3);
+            }
+        });
         test("term II, TAX: the last tax that HOLDS", () -> {
             taxed("tax 3;tax 4;tax 5", 5);
             taxed("tax 3;tax 4;tax 5 if 1=2", 4);
@@ -755,6 +808,116 @@ public final class TermBoundaryTest {
             x.force(1);
             due("three", x.free(0, 1, 0), 3);
             due("ways", x.free(0, 1, 4), 1);
+        });
+    }
+
+    /** Tries by hand which rows of so many cells make the thing owe nothing; tells how many, and the first row. */
+    private static int freeByHand(Bounds.Act setup, int part, int area, int wide, int[] row, int put, int[] first) {
+        if (put == row.length) {
+            int owed = Bounds.made(setup.then(x -> {
+                for (int cell : row) {
+                    x.paint(0, cell % wide, cell / wide, part);
+                }
+            })).owes(0);
+            if (owed == 0 && first[0] == NONE) {
+                System.arraycopy(row, 0, first, 0, row.length);
+            }
+            return owed == 0 ? 1 : 0;
+        }
+        int ways = 0;
+        for (int cell = put == 0 ? 0 : row[put - 1] + 1; cell < area; cell++) {
+            row[put] = cell;
+            ways += freeByHand(setup, part, area, wide, row, put + 1, first);
+        }
+        return ways;
+    }
+
+    private static void freedAsByHand(Bounds.Act setup, int part) {
+        SymmetryTax x = Bounds.made(setup);
+        int wide = x.fact(0, 0);
+        int area = wide * x.fact(0, 1);
+        int fewest = NONE;
+        int ways = 0;
+        int[] first = {NONE, NONE, NONE};
+        if (x.owes(0) == 0) {
+            fewest = 0;
+            ways = 1;
+        }
+        for (int k = 1; k <= 3 && ways == 0; k++) {
+            ways = freeByHand(setup, part, area, wide, new int[k], 0, first);
+            fewest = ways > 0 ? k : NONE;
+        }
+        due("fewest", x.free(0, part, 0), fewest);
+        for (int what = 1; what < 4; what++) {
+            due("cell " + what, x.free(0, part, what), first[what - 1]);
+        }
+        due("ways", x.free(0, part, 4), ways);
+    }
+
+    private static void searches() {
+        String[] laws = {"tax 1", "tax off*3-parts", "tax parts*2-off-2", "tax 1;spares if off+parts=5", "tax 4-parts;spares if like>2",
+            "tax 1;spares if off=4 and parts=2 or off=2 and parts=4"};
+        int[][] things = {{3, 3, 1, 2, 1, 2, 3, 2, 1, 2, 1}, {4, 2, 1, 2, 2, 1, 0, 3, 3, 0}, {3, 3}, {2, 2, 4, 4, 5, 5}};
+        test("term III, FREE: as if all rows of CELLS were painted by hand", () -> {
+            for (String text : laws) {
+                for (int[] thing : things) {
+                    for (int slack = 0; slack < 5; slack += 2) {
+                        int most = slack;
+                        Bounds.Act setup = x -> {
+                            Bounds.add(x, thing[0], thing[1], 0, Arrays.copyOfRange(thing, 2, thing.length));
+                            Bounds.law(x, text);
+                            x.force(0);
+                            x.terms(0, most);
+                        };
+                        freedAsByHand(setup, 2);
+                        freedAsByHand(setup, 7);
+                    }
+                }
+            }
+        });
+        test("term III, FILLINGS: as if all HOLES were painted by hand", () -> {
+            for (String text : laws) {
+                for (int[] thing : things) {
+                    filledAsByHand(text, thing, 2);
+                    filledAsByHand(text, thing, 3);
+                }
+            }
+        });
+    }
+
+    /** Four holes, in the first and the last two cells. */
+    private static void filledAsByHand(String text, int[] thing, int parts) {
+        int wide = thing[0];
+        int area = wide * thing[1];
+        int[] cells = {0, 1, area - 2, area - 1};
+        Bounds.Act setup = x -> {
+            Bounds.add(x, wide, thing[1], 0, Arrays.copyOfRange(thing, 2, thing.length));
+            Bounds.law(x, text);
+            x.force(0);
+            x.terms(0, 4);
+            for (int cell : cells) {
+                x.hole(0, cell % wide, cell / wide, 1);
+            }
+        };
+        TreeMap<Integer, int[]> found = new TreeMap<>();
+        for (int n = 0; n < parts * parts * parts * parts; n++) {
+            SymmetryTax x = Bounds.made(setup);
+            int[] got = {n % parts, n / parts % parts, n / parts / parts % parts, n / parts / parts / parts, 0};
+            for (int h = 0; h < 4; h++) {
+                x.paint(0, cells[h] % wide, cells[h] / wide, got[h]);
+            }
+            int[] all = found.computeIfAbsent(x.owes(0), sum -> got.clone());
+            for (int h = 0; h < 4; h++) {
+                all[h] = all[h] == got[h] ? got[h] : NONE;
+            }
+            all[4]++;
+        }
+        SymmetryTax x = Bounds.made(setup);
+        found.forEach((sum, all) -> {
+            due("fills, " + sum, x.fills(0, parts, sum), all[4]);
+            for (int h = 0; h < 4; h++) {
+                due("sure, " + sum, x.sure(0, parts, sum, cells[h] % wide, cells[h] / wide), all[h]);
+            }
         });
     }
 
@@ -1056,6 +1219,7 @@ public final class TermBoundaryTest {
         holds();
         likenesses();
         paintedOver();
+        searches();
         street();
         squares();
         daubing();

@@ -1,4 +1,5 @@
 import java.util.Map;
+import java.util.Random;
 
 /**
  * For each sentence of a promise that names a boundary case a test of its own, named after the promise: the last value
@@ -987,6 +988,19 @@ public final class PromiseBoundaryTest {
             Bounds.noneBeyond("brings", EMPTY, NONE, NONE, (y, v) -> y.brings(v));
             Bounds.noneBeyond("brings", SIX_LAWS, NONE, 5, (y, v) -> y.brings(v));
         });
+        test("promise 20: by SLACK and DAY as they stand", () -> {
+            SymmetryTax x = Bounds.of(2, 1, 1, 2);
+            Bounds.law(x, "tax day");
+            x.terms(1, 7);
+            due("LIKENESS 1 alone", x.brings(0), 7);
+            x.terms(0, 2);
+            due("all three", x.brings(0), 21);
+            due("by none", x.brings(NONE), 30);
+            x.terms(1, 99);
+            due("the last DAY", x.brings(0), 297);
+            x.terms(1, 0);
+            due("the first DAY", x.brings(0), 0);
+        });
         test("promise 20: no THINGS bring 0", () -> due("brings(NONE)", new SymmetryTax().brings(NONE), 0));
         test("promise 20: what is in FORCE stays", () -> {
             SymmetryTax x = rich();
@@ -1020,6 +1034,24 @@ public final class PromiseBoundaryTest {
             x = Bounds.of(1, 1);
             Bounds.law(x, "spares");
             due("one that spares", x.dearest(), 0);
+        });
+        test("promise 21: by SLACK and DAY as they stand", () -> {
+            SymmetryTax x = Bounds.of(2, 1, 1, 2);
+            Bounds.law(x, "tax 4");
+            Bounds.law(x, "tax day");
+            Bounds.law(x, "tax off+1");
+            int[][] slackDayDearest = {{0, 0, 0}, {0, 4, 0}, {0, 5, 1}, {64, 3, 0}, {64, 4, 0}, {64, 5, 1}, {0, 99, 1}, {2, 0, 0}};
+            for (int[] n : slackDayDearest) {
+                x.terms(0, n[0]);
+                x.terms(1, n[1]);
+                due("SLACK " + n[0] + ", DAY " + n[1], x.dearest(), n[2]);
+            }
+            Bounds.law(x, "tax off*3");
+            due("LIKENESS 1 is OFF by none, 0 and 2 by two: as 4", x.dearest(), 0);
+            Bounds.law(x, "tax off*3+1");
+            due("one more for each", x.dearest(), 4);
+            x.terms(0, 1);
+            due("LIKENESS 1 alone", x.dearest(), 0);
         });
         test("promise 21, full: the last of six", () -> {
             SymmetryTax x = Bounds.made(SIX_LAWS);
@@ -1279,6 +1311,18 @@ public final class PromiseBoundaryTest {
             due("not square, all", Bounds.of(8, 7).order(0), 4);
             due("1 by 8", Bounds.of(1, 8).order(0), 4);
         });
+        test("promise 26, THING: each has its own, the last of six too", () -> {
+            SymmetryTax x = Bounds.of(2, 2, 1, 2, 3, 4);
+            Bounds.add(x, 2, 2, 0);
+            Bounds.add(x, 3, 1, 0, 1, 2, 1);
+            Bounds.add(x, 2, 2, 0, 1, 1, 2, 2);
+            Bounds.add(x, 2, 2, 0, 1, 2, 2, 1);
+            Bounds.add(x, 8, 8, 0, 1);
+            int[] orders = {1, 8, 4, 2, 4, 2};
+            for (int t = 0; t < 6; t++) {
+                due("order(" + t + ")", x.order(t), orders[t]);
+            }
+        });
         test("promise 26: SLACK makes no FORM alike", () -> {
             SymmetryTax x = Bounds.of(2, 2, 1, 2, 3, 4);
             x.terms(0, 64);
@@ -1498,6 +1542,26 @@ public final class PromiseBoundaryTest {
             Bounds.noneBeyond("sure: THING", HOLED, 0, 0, (x, v) -> x.sure(v, 3, 30, 0, 0));
             Bounds.unchanged("no THINGS", EMPTY, x -> x.sure(0, 2, 0, 0, 0), NONE);
         });
+        test("promise 29, THING: each has its own HOLES and CELLS", () -> {
+            SymmetryTax x = Bounds.made(HOLED);
+            Bounds.add(x, 2, 2, 0, 1, 1, 3, 3);
+            x.hole(1, 1, 1, 1);
+            Bounds.add(x, 1, 3, 0, 1, 1, 1);
+            x.hole(2, 0, 2, 1);
+            for (int n = 0; n < 2; n++) {
+                due("0", x.sure(0, 4, 30, 0, 0), 2);
+                due("1", x.sure(1, 4, 10, 1, 1), NONE);
+                due("1", x.sure(1, 4, 10, 0, 0), NONE);
+                due("2", x.sure(2, 4, 30, 0, 2), 1);
+                due("2, no HOLE", x.sure(2, 4, 30, 0, 0), NONE);
+                due("0, no CELL", x.sure(0, 4, 30, 0, 2), NONE);
+            }
+            due("1, three PARTS", x.sure(1, 3, 10, 1, 1), 1);
+            x.paint(1, 0, 0, 3);
+            // 3 1 above 3 and a HOLE: LIKENESS 1 by 1, LIKENESS 4 by 3
+            due("1, three PARTS", x.sure(1, 3, 10, 1, 1), 1);
+            due("1, four PARTS", x.sure(1, 4, 10, 1, 1), NONE);
+        });
         test("promise 29, full: each of six HOLES", () -> {
             int[] parts = {0, 0, 0, 1, 2, 3, 3, 2, 1, 0, 1, 2};
             SymmetryTax x = Bounds.of(6, 2, parts);
@@ -1509,6 +1573,78 @@ public final class PromiseBoundaryTest {
             x.force(0);
             for (int c = 0; c < 6; c++) {
                 due("hole " + c, x.sure(0, 4, 7, c, 0), parts[6 + c]);
+            }
+        });
+    }
+
+    // ---- promise 24, 28, 29, 31 to 33: searches behind any change ----
+
+    private static Bounds.Act drawnChange(Random draw) {
+        int a = draw.nextInt(3);
+        int b = draw.nextInt(3);
+        int c = draw.nextInt(2);
+        int d = draw.nextInt(4);
+        switch (draw.nextInt(12)) {
+            case 0: case 1: return x -> x.paint(a, b, c, d);
+            case 10: return x -> x.thing(a + 1, 2, c);
+            case 2: return x -> x.hole(a, b, c, d % 2);
+            case 3: return x -> x.terms(d, a + 1);
+            case 4: return x -> x.force(a - 1);
+            case 5: return x -> x.place(a, b + d);
+            case 6: return x -> x.place(a, NONE);
+            case 7: return x -> Bounds.row(x, a, b, c, d);
+            case 8: return x -> x.image(c);
+            case 9: return x -> x.back(c);
+            default: return x -> Bounds.law(x, "tax " + d + ";spares if parts>" + (a + 1));
+        }
+    }
+
+    private static Bounds.Ask drawnSearch(Random draw) {
+        int a = draw.nextInt(3);
+        int b = draw.nextInt(3);
+        int c = draw.nextInt(5);
+        int[] sums = {0, 1, 2, 3, 4, 6, 10, 20, 30};
+        int sum = sums[draw.nextInt(sums.length)];
+        switch (draw.nextInt(6)) {
+            case 0: return x -> x.free(a, b, c);
+            case 1: return x -> x.fills(a, b + 2, sum);
+            case 2: return x -> x.sure(a, b + 2, sum, c % 3, c / 3);
+            case 3: return x -> x.street(c % 2);
+            case 4: return x -> x.best(c % 2);
+            default: return x -> x.bestAt(c);
+        }
+    }
+
+    /** A search on an object that was asked before answers as one on an object that was never asked. */
+    private static void askedAnew(int seed) {
+        Random draw = new Random(seed);
+        // every other one begins with next to nothing, so that the first changes are searched behind, too
+        Bounds.Act acts = seed % 2 == 0 ? x -> x.thing(3, 2, 0) : x -> {
+            Bounds.add(x, 3, 2, 0, 1, 2, 1, 0, 0, 0);
+            Bounds.add(x, 2, 2, 1, 1, 0, 0, 1);
+            Bounds.add(x, 3, 2, 2, 1, 2, 1, 0, 0, 0);
+            x.hole(0, 0, 0, 1);
+            x.hole(1, 1, 1, 1);
+            Bounds.law(x, "tax 1;spares if parts>2");
+        };
+        SymmetryTax lives = Bounds.made(acts);
+        for (int step = 0; step < 30; step++) {
+            Bounds.Act change = drawnChange(draw);
+            change.on(lives);
+            acts = acts.then(change);
+            for (int n = 0; n < 6; n++) {
+                Bounds.Ask ask = drawnSearch(draw);
+                int want = ask.of(Bounds.made(acts));
+                due("seed " + seed + ", step " + step, ask.of(lives), want);
+                due("seed " + seed + ", step " + step + ", again", ask.of(lives), want);
+            }
+        }
+    }
+
+    private static void searches() {
+        test("promises 24, 28, 29, 31, 32, 33: asked anew behind any change, whatever was asked ahead", () -> {
+            for (int seed = 0; seed < 200; seed++) {
+                askedAnew(seed);
             }
         });
     }
@@ -1674,6 +1810,23 @@ public final class PromiseBoundaryTest {
             Bounds.add(x, 2, 1, 0, 5, 6);
             due("best(0)", x.best(0), 5);
             due("bestAt(0)", x.bestAt(0), 0);
+        });
+        test("promise 32: one that leaves the STREET is put no more, whichever of six", () -> {
+            for (int gone = 0; gone < 6; gone++) {
+                SymmetryTax x = new SymmetryTax();
+                for (int t = 0; t < 6; t++) {
+                    x.thing(1, 1, 0);
+                    x.place(t, t + 3);
+                }
+                due("all six", x.best(1), 720);
+                x.place(gone, NONE);
+                due("five", x.best(1), 120);
+                for (int place = 3; place < 9; place++) {
+                    int seat = place - 3 - (place - 3 > gone ? 1 : 0);
+                    int want = place - 3 == gone ? NONE : seat + (seat >= gone ? 1 : 0);
+                    due("bestAt(" + place + ")", x.bestAt(place), want);
+                }
+            }
         });
         test("promise 32: it is on paper", () -> {
             SymmetryTax x = rich();
@@ -2208,7 +2361,8 @@ public final class PromiseBoundaryTest {
     /** All calls that status does not name, each with an answer and with NONE; but those that change the tape. */
     private static Bounds.Ask[] questions() {
         return new Bounds.Ask[] {
-            x -> x.fact(0, 0), x -> x.fact(9, 9), x -> x.of(0, 0, 0), x -> x.of(9, 9, 9), x -> x.end(401), x -> x.flakes(), x -> x.fault(), x -> x.off(0, 0), x -> x.off(9, 9),
+            x -> x.fact(0, 0), x -> x.fact(9, 9), x -> x.of(0, 0, 0), x -> x.of(9, 9, 9),
+            x -> x.end(401), x -> x.flakes(), x -> x.fault(), x -> x.off(0, 0), x -> x.off(9, 9),
             x -> x.has(0), x -> x.has(9), x -> x.tax(0, 0), x -> x.tax(9, 9), x -> x.owes(0), x -> x.owes(NONE),
             x -> x.owes(9), x -> x.owner(0), x -> x.owner(9), x -> x.brings(0), x -> x.brings(9), x -> x.dearest(),
             x -> x.quite(0, 0), x -> x.quite(9, 9), x -> x.quiteAt(0, 0, 0, 0), x -> x.quiteAt(9, 9, 9, 9),
@@ -2249,6 +2403,7 @@ public final class PromiseBoundaryTest {
         forms();
         fills();
         sure();
+        searches();
         place();
         street();
         best();

@@ -382,6 +382,40 @@ public final class TermBoundaryTest {
         });
     }
 
+    private static void likeNumbers() {
+        test("term II, TOKENS: a NUMBER that is a sign's byte is no sign", () -> {
+            // 59 ;  40 (  41 )  91 [  93 ]  43 +  45 -  42 *  47 /  60 <  61 =  62 >
+            for (int sign : new int[] {40, 41, 91, 93, 43, 45, 42, 47, 60, 61, 62, 59}) {
+                taxed("tax " + sign, sign);
+                taxed("tax 3 if " + sign + "=" + sign, 3);
+                taxed("tax 3 if not " + sign + "=" + sign, 10);
+                bad("tax 1 " + sign + " 1", 6);
+                bad("spares " + sign + " spares", 7);
+                bad("spares if 1 " + sign + " 1", 12);
+                bad("spares if (1=1 " + sign, 15);
+                bad("tax [1 " + sign, 7);
+            }
+        });
+        test("term II, TOKENS: single bytes 0 to 31 are no words, no NUMBERS, no end", () -> {
+            for (int b = 0; b < 32; b++) {
+                bad((char) b + " 1", 0);
+                bad("tax " + (char) b, 4);
+                bad("tax 1 " + (char) b + " 1=1", 6);
+                bad("spares if " + (char) b + " 1=1", 10);
+                bad("spares if 1=1 " + (char) b + " 1=1", 14);
+                bad("spares" + (char) b, 6);
+            }
+        });
+        test("term II, TOKENS: NUMBERS are no words", () -> {
+            for (int n = 0; n < 15; n++) {
+                bad(n + " 1", 0);
+                bad("spares " + n + " 1=1", 7);
+                bad("spares if 1=1 " + n + " 1=1", 14);
+                taxed("tax " + n + " if " + n + "=" + n, n);
+            }
+        });
+    }
+
     private static void limits() {
         test("term II, PARTS: 50 are taken, and the 50th is asked", () -> taxed("tax 1" + "+1".repeat(48) + "+5", 54));
         test("term II, PARTS: FAULT at the 51st, be it a NUMBER or a word", () -> {
@@ -422,6 +456,28 @@ public final class TermBoundaryTest {
             taxed("tax 7 if (((((((1=[1])))))))", 7);
             bad("tax 7 if ((((((((1=[1]))))))))", 19);
         });
+        test("term II, brackets: they are counted behind each sign and word, too", () -> {
+            for (String sign : new String[] {"+", "-", "*", "/"}) {
+                good("tax [[[[[[[1" + sign + "[1]]]]]]]]");
+                bad("tax [[[[[[[[1" + sign + "[1]]]]]]]]]", 14);
+                good("tax 1" + sign + "[[[[[[[[1]]]]]]]]");
+                bad("tax 1" + sign + "[[[[[[[[[1]]]]]]]]]", 14);
+            }
+            for (String sign : new String[] {"<", ">", "="}) {
+                good("spares if (((((((1" + sign + "[1])))))))");
+                bad("spares if ((((((((1" + sign + "[1]))))))))", 20);
+                bad("spares if ((((((((1" + sign + "1+[1]))))))))", 22);
+                bad("spares if 1" + sign + "[[[[[[[[[1]]]]]]]]]", 20);
+            }
+            for (String word : new String[] {" or ", " and ", " and not ", " or 2=2 and ", " and 2=2 or "}) {
+                int at = 18 + 3 + word.length();
+                good("spares if (((((((1=1" + word + "(1=1))))))))");
+                bad("spares if ((((((((1=1" + word + "(1=1)))))))))", at);
+                bad("spares if ((((((((1=1" + word + "[1]=1))))))))", at);
+                bad("spares if ((((((((1=1" + word + "1=[1]))))))))", at + 2);
+                bad("spares if ((((((((1=1" + word + "1*[1]=1))))))))", at + 2);
+            }
+        });
         test("term II, brackets: those that are shut again are not counted", () -> {
             good("tax " + "[1]+".repeat(20) + "[[[[[[[[1]]]]]]]]");
             good("spares if ((((((((1=1))))))))and((((((((1=1))))))))");
@@ -444,6 +500,16 @@ public final class TermBoundaryTest {
             bad(" ".repeat(399) + "x", 399);
             bad("(".repeat(400), 0);
             bad("tax " + "[".repeat(396), 12);
+        });
+        test("term II, TAPE: a TEXT of 400 bytes has 398 TOKENS at most", () -> {
+            String bracketed = "[[[[[[[[1]]]]]]]]";
+            String sum = "tax" + (bracketed + "+").repeat(22);
+            taxed(sum + "1", 23);
+            bad(sum, 399);
+            bad(sum + "+", 399);
+            bad("tax" + ("[".repeat(8) + "1" + "]".repeat(8) + "-").repeat(22) + "!", 399);
+            bad("tax" + "!".repeat(397), 3);
+            bad("!".repeat(400), 0);
         });
     }
 
@@ -488,6 +554,23 @@ public final class TermBoundaryTest {
                 due("tax(0, " + like + ")", x.tax(0, like), off[like]);
             }
             due("owes(0)", x.owes(0), 224);
+        });
+        test("term II, off and parts: 64 and 10 at once, by each LIKENESS that can", () -> {
+            // quarters of unlike PARTS, so that no CELL is as the one that it is taken to by 0, 1, 2, 5
+            int[] parts = new int[64];
+            for (int c = 0; c < 64; c++) {
+                int quarter = c / 32 * 2 + c % 8 / 4;
+                parts[c] = quarter == 0 ? c % 3 : quarter == 1 ? 3 + c % 3 : quarter == 2 ? 6 + c % 2 : 8 + c % 2;
+            }
+            SymmetryTax x = Bounds.of(8, 8, parts);
+            Bounds.law(x, "tax off*10+parts");
+            x.force(0);
+            x.terms(0, 64);
+            for (int like : new int[] {0, 1, 2, 5}) {
+                due("off(0, " + like + ")", x.off(0, like), 64);
+                due("tax(0, " + like + ")", x.tax(0, like), 650);
+            }
+            due("owes(0)", x.owes(0), 4 * 650 + x.tax(0, 3) + x.tax(0, 4));
         });
         test("term II, wide, tall, area: 1 to 8, 1 to 64", () -> {
             for (int size = 0; size < 64; size++) {
@@ -1019,12 +1102,82 @@ public final class TermBoundaryTest {
                 due("ruler(0, " + like + ", 3)", x.ruler(0, like, 3), off[like]);
             }
         });
+        test("term III, RULER: a lesser SQUARE is unlike by one PART alone, whichever it is", () -> {
+            for (int part = 0; part < 10; part++) {
+                for (int other = 0; other < 10; other++) {
+                    // the first SQUARE has both, the lesser one has the other alone
+                    SymmetryTax x = Bounds.of(3, 1, part, other, other);
+                    due(part + " and " + other, x.ruler(0, 0, 2), 2);
+                    due("one SQUARE", x.ruler(0, 0, 3), 0);
+                }
+            }
+        });
         test("term III, RULER: as many SQUARES as lie in WIDE and TALL, one more if something is left", () -> {
             SymmetryTax x = Bounds.of(8, 1, 0, 0, 0, 0, 0, 0, 0, 9);
             int[] by0 = {2, 2, 2, 2, 2, 2, 2, 0};
             for (int r = 1; r <= 8; r++) {
                 due("ruler(0, 0, " + r + ")", x.ruler(0, 0, r), by0[r - 1]);
                 due("ruler(0, 1, " + r + ")", x.ruler(0, 1, r), 0);
+            }
+        });
+    }
+
+    /** What each square of a thing has, as a row of how many of each part. */
+    private static String[][] squaresByHand(int wide, int tall, int r, int... parts) {
+        String[][] squares = new String[(tall + r - 1) / r][(wide + r - 1) / r];
+        for (int down = 0; down < squares.length; down++) {
+            for (int along = 0; along < squares[0].length; along++) {
+                int[] has = new int[10];
+                for (int y = down * r; y < Math.min(tall, down * r + r); y++) {
+                    for (int x = along * r; x < Math.min(wide, along * r + r); x++) {
+                        has[parts[y * wide + x]]++;
+                    }
+                }
+                squares[down][along] = Arrays.toString(has);
+            }
+        }
+        return squares;
+    }
+
+    private static int offByHand(String[][] cells, int like) {
+        int tall = cells.length;
+        int wide = cells[0].length;
+        int off = 0;
+        for (int y = 0; y < tall; y++) {
+            for (int x = 0; x < wide; x++) {
+                int[][] to = {{wide - 1 - x, y}, {x, tall - 1 - y}, {wide - 1 - x, tall - 1 - y}, {y, x},
+                    {tall - 1 - y, wide - 1 - x}, {tall - 1 - y, x}};
+                off += cells[y][x].equals(cells[to[like][1]][to[like][0]]) ? 0 : 1;
+            }
+        }
+        return off;
+    }
+
+    private static void measuredByHand(int wide, int tall, int... parts) {
+        SymmetryTax x = Bounds.of(wide, tall, parts);
+        for (int r = 1; r <= 8; r++) {
+            String[][] squares = squaresByHand(wide, tall, r, parts);
+            for (int like = 0; like < 6; like++) {
+                int want = like > 2 && wide != tall ? NONE : offByHand(squares, like);
+                due(wide + " by " + tall + ", ruler(0, " + like + ", " + r + ")", x.ruler(0, like, r), want);
+            }
+        }
+    }
+
+    private static void squaresOfAllSides() {
+        test("term III, RULER: of 1 to 8 on sides of 1 to 8 each, with far SQUARES that are less", () -> {
+            for (int wide = 1; wide <= 8; wide++) {
+                for (int tall = 1; tall <= 8; tall++) {
+                    for (int parts = 1; parts <= 10; parts++) {
+                        int[] cells = new int[wide * tall];
+                        int drawn = wide * 100 + tall * 10 + parts;
+                        for (int c = 0; c < cells.length; c++) {
+                            drawn = draw(drawn);
+                            cells[c] = drawn / 7 % parts;
+                        }
+                        measuredByHand(wide, tall, cells);
+                    }
+                }
             }
         });
     }
@@ -1072,6 +1225,27 @@ public final class TermBoundaryTest {
                 daubedByHand(seed, 60, setup);
                 daubedByHand(seed, 0, setup);
             }
+        });
+        test("term IV, DAUBING: by the LAW in FORCE, be it none, the first or the last", () -> {
+            for (int law = NONE; law < 6; law++) {
+                SymmetryTax x = Bounds.of(1, 1);
+                for (int l = 0; l < 6; l++) {
+                    Bounds.law(x, "tax " + (l + 1));
+                }
+                x.force(law);
+                int each = law == NONE ? 60 : 6 * (law + 1);
+                due("LAW " + law, x.daub(3, 40), 40 * each);
+                due("LAW " + law + ", the last day", x.daubed(39), each);
+            }
+        });
+        test("term IV, DAUBING: by SLACK as it stands", () -> {
+            // 12345 (CELL 1), 628841 (PART 1)
+            SymmetryTax x = Bounds.of(2, 1, 7, 7);
+            due("SLACK 0", x.daub(0, 1), 10);
+            x.terms(0, 1);
+            due("SLACK 1", x.daub(0, 1), 10);
+            x.terms(0, 2);
+            due("SLACK 2", x.daub(0, 1), 30);
         });
         test("term IV, DAUBING: a DRAW of one CELL is taken all the same", () -> {
             Bounds.Act setup = x -> {
@@ -1181,6 +1355,46 @@ public final class TermBoundaryTest {
             due("TAPE", x.count(3), 2);
             due("DAUBING", x.daubed(40 - 1) == NONE ? 1 : 0, 0);
         });
+        test("term IV, IMAGES: each CELL of 8 by 8 comes back, painted or a HOLE", () -> {
+            for (int c = 0; c < 64; c++) {
+                SymmetryTax x = Bounds.of(8, 8);
+                x.paint(0, c % 8, c / 8, 4);
+                x.hole(0, c % 8, c / 8, 1);
+                x.image(0);
+                x.paint(0, c % 8, c / 8, 5);
+                x.hole(0, c % 8, c / 8, 0);
+                x.image(1);
+                x.back(0);
+                due("cell " + c, x.of(0, c % 8, c / 8), 4);
+                due("hole " + c, x.hole(0, c % 8, c / 8, 0), 1);
+                x.back(1);
+                due("cell " + c, x.of(0, c % 8, c / 8), 5);
+                due("hole " + c, x.hole(0, c % 8, c / 8, 1), 0);
+            }
+        });
+        test("term IV, IMAGES: each of six LAWS comes back, though another one had its number", () -> {
+            for (int from = 0; from < 6; from++) {
+                SymmetryTax x = Bounds.of(1, 1);
+                for (int l = 0; l < 6; l++) {
+                    if (l == from) {
+                        x.image(0);
+                    }
+                    Bounds.law(x, "tax " + (l + 1));
+                }
+                x.image(1);
+                x.back(0);
+                for (int l = from; l < 6; l++) {
+                    due("another", Bounds.law(x, "tax " + (l + 51)), l);
+                }
+                for (int l = 0; l < 6; l++) {
+                    due("LAW " + l, x.brings(l), 6 * (l < from ? l + 1 : l + 51));
+                }
+                x.back(1);
+                for (int l = 0; l < 6; l++) {
+                    due("LAW " + l + " of then", x.brings(l), 6 * (l + 1));
+                }
+            }
+        });
         test("term IV, IMAGES: each of six THINGS and six LAWS comes back", () -> {
             Bounds.Act full = x -> {
                 for (int t = 0; t < 6; t++) {
@@ -1213,6 +1427,7 @@ public final class TermBoundaryTest {
         tokens();
         clauses();
         grammar();
+        likeNumbers();
         limits();
         asked();
         broken();
@@ -1222,6 +1437,7 @@ public final class TermBoundaryTest {
         searches();
         street();
         squares();
+        squaresOfAllSides();
         daubing();
         rows();
         images();

@@ -49,8 +49,8 @@ public final class SymmetryTax {
     private static final int MOST_DAYS = 40;
 
     private final Books books = new Books();
+    /** Null till it is kept, so that objects without images take less room. */
     private final Books[] images = new Books[IMAGES];
-    private final boolean[] kept = new boolean[IMAGES];
     private final int[] tape = new int[TAPE];
     private int tapeLength = 0;
     private int latestFault = NONE;
@@ -70,9 +70,6 @@ public final class SymmetryTax {
     private final Ruler inspector = new Ruler();
 
     public SymmetryTax() {
-        for (int k = 0; k < IMAGES; k++) {
-            images[k] = new Books();
-        }
         for (int t = 0; t < THINGS; t++) {
             papers[t] = new Paper();
         }
@@ -481,8 +478,10 @@ public final class SymmetryTax {
         if (!within(k, 0, IMAGES - 1)) {
             return refuse(BAD_NUMBER);
         }
+        if (images[k] == null) {
+            images[k] = new Books();
+        }
         images[k].copy(books);
-        kept[k] = true;
         return done(0);
     }
 
@@ -490,7 +489,7 @@ public final class SymmetryTax {
         if (!within(k, 0, IMAGES - 1)) {
             return refuse(BAD_NUMBER);
         }
-        if (!kept[k]) {
+        if (images[k] == null) {
             return refuse(NO_SUCH);
         }
         books.copy(images[k]);
@@ -1356,14 +1355,16 @@ public final class SymmetryTax {
     private static final class Clerk {
         private static final int OFFS = CELLS + 1;
         private static final int UNLIKES = PARTS + 1;
+        private static final int TAX_BITS = 10;
+        private static final int TAX_MASK = (1 << TAX_BITS) - 1;
 
         private final Machine machine = new Machine();
         private Paper paper = null;
         private Law law = null;
         private int slack = 0;
         private int stamp = 0;
-        private final int[] stamps = new int[LIKENESSES * OFFS * UNLIKES];
-        private final int[] taxes = new int[LIKENESSES * OFFS * UNLIKES];
+        /** A tax and the stamp that it holds for in one number: two rows would take twice the room. */
+        private final long[] notes = new long[LIKENESSES * OFFS * UNLIKES];
 
         void open(Paper newPaper, Law newLaw, int day, int newSlack) {
             paper = newPaper;
@@ -1380,17 +1381,16 @@ public final class SymmetryTax {
         /** Searches ask the same again and again: a law is gone through once for each answer. */
         int taxBy(int like, int off, int unlike) {
             int key = (like * OFFS + off) * UNLIKES + unlike;
-            if (!within(key, 0, stamps.length - 1)) {
+            if (!within(key, 0, notes.length - 1)) {
                 return 0;
             }
-            if (stamps[key] != stamp) {
+            if (notes[key] >> TAX_BITS != stamp) {
                 machine.facts[Machine.LIKE] = like;
                 machine.facts[Machine.OFF] = off;
                 machine.facts[Machine.UNLIKE] = unlike;
-                taxes[key] = machine.taxOf(law);
-                stamps[key] = stamp;
+                notes[key] = (long) stamp << TAX_BITS | machine.taxOf(law);
             }
-            return taxes[key];
+            return (int) (notes[key] & TAX_MASK);
         }
 
         int owed() {

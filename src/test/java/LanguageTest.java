@@ -1,5 +1,7 @@
+import java.io.DataInputStream;
 import java.io.IOException;
 import java.lang.management.ManagementFactory;
+import java.lang.reflect.Array;
 import java.lang.reflect.Constructor;
 import java.lang.reflect.Field;
 import java.lang.reflect.Method;
@@ -7,7 +9,9 @@ import java.lang.reflect.Modifier;
 import java.nio.file.Files;
 import java.nio.file.Path;
 import java.util.ArrayList;
+import java.util.Collections;
 import java.util.HashSet;
+import java.util.IdentityHashMap;
 import java.util.List;
 import java.util.Set;
 import java.util.TreeSet;
@@ -19,6 +23,12 @@ public final class LanguageTest {
     private static final String FACE = "thing/3 fact/2 paint/4 of/3 hole/4 terms/2 feed/5 end/1 row/0 flakes/0 law/0 fault/0 "
         + "force/1 off/2 has/1 tax/2 owes/1 owner/1 brings/1 dearest/0 quite/2 quiteAt/4 free/3 form/4 order/1 forms/2 fills/3 "
         + "sure/5 place/2 street/1 best/1 bestAt/1 ruler/3 daub/2 daubed/1 image/1 back/1 count/1 status/0";
+    private static final Set<String> LIBRARY = Set.of("java/lang/Object.<init>", "java/lang/System.arraycopy",
+        "java/util/Arrays.fill", "java/util/Arrays.copyOf", "java/lang/Math.min", "java/lang/Math.max",
+        "java/lang/Integer.bitCount", "java/lang/String.length", "java/lang/String.charAt");
+    private static final long ROOM_OBJECTS = 600_000;
+    private static final long ROOM_ELEMENTS = 7_300_000;
+    private static final int MOST_CALLS = 512;
     private static int wrong = 0;
 
     private static void due(String what, boolean so) {
@@ -113,6 +123,106 @@ public final class LanguageTest {
         }
     }
 
+    /** What the compiled classes call of other classes, as their tables of constants tell it. */
+    private static void library() throws IOException {
+        List<Class<?>> classes = new ArrayList<>(List.of(SymmetryTax.class));
+        classes.addAll(List.of(SymmetryTax.class.getDeclaredClasses()));
+        for (Class<?> k : classes) {
+            try (DataInputStream in = new DataInputStream(k.getResourceAsStream(k.getName() + ".class"))) {
+                for (String called : calledBy(in)) {
+                    due(k + " calls " + called, called.startsWith("SymmetryTax") || LIBRARY.contains(called));
+                }
+            }
+        }
+    }
+
+    private static List<String> calledBy(DataInputStream in) throws IOException {
+        in.skipBytes(8);
+        int size = in.readUnsignedShort();
+        String[] texts = new String[size];
+        int[] kinds = new int[size];
+        int[] first = new int[size];
+        int[] second = new int[size];
+        for (int n = 1; n < size; n++) {
+            kinds[n] = in.readUnsignedByte();
+            switch (kinds[n]) {
+                case 1 -> texts[n] = in.readUTF();
+                case 3, 4 -> in.readInt();
+                case 5, 6 -> {
+                    in.readLong();
+                    n++;
+                }
+                case 7, 8, 16, 19, 20 -> first[n] = in.readUnsignedShort();
+                case 15 -> {
+                    in.readUnsignedByte();
+                    in.readUnsignedShort();
+                }
+                default -> {
+                    first[n] = in.readUnsignedShort();
+                    second[n] = in.readUnsignedShort();
+                }
+            }
+        }
+        List<String> called = new ArrayList<>();
+        for (int n = 1; n < size; n++) {
+            if (kinds[n] == 10 || kinds[n] == 11) {
+                called.add(texts[first[first[n]]] + "." + texts[first[second[n]]]);
+            }
+            due("nothing is joined or bound as it runs", kinds[n] != 17 && kinds[n] != 18);
+        }
+        return called;
+    }
+
+    /** Objects and arrays (0), fields and elements (1) that hang on an object. */
+    private static void count(Object o, Set<Object> seen, long[] sums) throws IllegalAccessException {
+        if (o == null || !seen.add(o)) {
+            return;
+        }
+        sums[0]++;
+        Class<?> c = o.getClass();
+        if (c.isArray()) {
+            int length = Array.getLength(o);
+            sums[1] += length;
+            for (int n = 0; n < length && !c.getComponentType().isPrimitive(); n++) {
+                count(Array.get(o, n), seen, sums);
+            }
+            return;
+        }
+        for (Field f : c.getDeclaredFields()) {
+            if (!Modifier.isStatic(f.getModifiers())) {
+                sums[1]++;
+                f.setAccessible(true);
+                if (!f.getType().isPrimitive()) {
+                    count(f.get(o), seen, sums);
+                }
+            }
+        }
+    }
+
+    /** Even a run that does nothing but make objects finds room. */
+    private static void roomOfAnObject() throws IllegalAccessException {
+        long[] sums = new long[2];
+        count(new SymmetryTax(), Collections.newSetFromMap(new IdentityHashMap<>()), sums);
+        due("as many objects as calls find room: " + sums[0] + " objects each", sums[0] * MOST_CALLS < ROOM_OBJECTS);
+        due("as many objects as calls find room: " + sums[1] + " elements each", sums[1] * MOST_CALLS < ROOM_ELEMENTS);
+    }
+
+    /** Laws are all that calls make again and again; an image is made once. */
+    private static void roomOfLaws() {
+        SymmetryTax x = new SymmetryTax();
+        x.image(0);
+        x.image(1);
+        long before = made();
+        for (int n = 0; n < MOST_CALLS / 3; n++) {
+            // "tax 1+1+1+1+1+1+1+11"
+            x.feed(0x74617820, 0x312b312b, 0x312b312b, 0x312b312b, 0x312b3131);
+            due("a law is kept", x.law() == 0);
+            x.back(0);
+            x.image(1);
+        }
+        due("laws and images take little room", made() - before < 400_000);
+    }
+
     private static long made() {
         return ((com.sun.management.ThreadMXBean) ManagementFactory.getThreadMXBean())
             .getThreadAllocatedBytes(Thread.currentThread().getId());
@@ -149,10 +259,13 @@ public final class LanguageTest {
         due("calls take no room", made() - before < 100_000);
     }
 
-    public static void main(String[] args) throws IOException {
+    public static void main(String[] args) throws IOException, IllegalAccessException {
         face();
         source();
+        library();
         room();
+        roomOfAnObject();
+        roomOfLaws();
         System.out.println(wrong == 0 ? "the language is kept" : wrong + " rules are not kept");
         if (wrong != 0) {
             System.exit(1);
